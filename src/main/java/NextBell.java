@@ -30,6 +30,10 @@ public final class NextBell {
     private static final int CUT = 2;
     private static final int PANIC = 3;
 
+    private static final int ODDS = 0;
+    private static final int QUIET = 1;
+    private static final int MEAN = 2;
+
     private static final int NO_SUCH = 1;
     private static final int NUMBER = 2;
     private static final int NO_ROOM = 3;
@@ -409,42 +413,21 @@ public final class NextBell {
         if (noHouse(h) || outside(n, 0, LAST_DAY)) {
             return NONE;
         }
-        long weight = 0;
-        for (int come = 0; come < SETS; come++) {
-            long part = fires.weight(come, story.told);
-            if (part > 0 && (fires.burntIf(come, story.told, n) >> h & 1) == 1) {
-                weight += part;
-            }
-        }
-        return lowest(weight, fires.wholeWeight(story.told), lower);
+        return overAll(ODDS, h, n, lower);
     }
 
     public long quiet(int n, boolean lower) {
         if (noStreet() || outside(n, 0, LAST_DAY)) {
             return NONE;
         }
-        long weight = 0;
-        for (int come = 0; come < SETS; come++) {
-            long part = fires.weight(come, story.told);
-            if (part > 0 && fires.burntIf(come, story.told, n) == 0) {
-                weight += part;
-            }
-        }
-        return lowest(weight, fires.wholeWeight(story.told), lower);
+        return overAll(QUIET, 0, n, lower);
     }
 
     public long mean(int n, boolean lower) {
         if (noStreet() || outside(n, 0, LAST_DAY)) {
             return NONE;
         }
-        long weight = 0;
-        for (int come = 0; come < SETS; come++) {
-            long part = fires.weight(come, story.told);
-            if (part > 0) {
-                weight += part * Integer.bitCount(fires.burntIf(come, story.told, n));
-            }
-        }
-        return lowest(weight, fires.wholeWeight(story.told), lower);
+        return overAll(MEAN, 0, n, lower);
     }
 
     // ---- years by draws
@@ -648,6 +631,29 @@ public final class NextBell {
 
     private boolean stays(boolean one, boolean other) {
         return has(one, other) >= has(!one, other) && has(other, one) >= has(!other, one);
+    }
+
+    /** A part of a hundred to the number of causes, over all sets of causes that may come. */
+    private long overAll(int sort, int h, int n, boolean lower) {
+        long weight = 0;
+        for (int come = 0; come < SETS; come++) {
+            long part = fires.weight(come, story.told);
+            if (part > 0) {
+                weight += part * counted(sort, h, fires.burntIf(come, story.told, n));
+            }
+        }
+        return lowest(weight, fires.wholeWeight(story.told), lower);
+    }
+
+    private static int counted(int sort, int h, int burnt) {
+        switch (sort) {
+            case ODDS:
+                return burnt >> h & 1;
+            case QUIET:
+                return burnt == 0 ? 1 : 0;
+            default:
+                return Integer.bitCount(burnt);
+        }
     }
 
     private static long lowest(long upper, long under, boolean lower) {

@@ -29,10 +29,12 @@ public final class PromisesTest {
         ifTold();
         dumbDays();
         ways();
+        waysAnew();
         safe();
         cuts();
         fits();
         twoUnknown();
+        lateTry();
         judges();
         two();
         chance();
@@ -97,6 +99,7 @@ public final class PromisesTest {
         }
         Due.is("burns 4", x, x.burns(4), -1, 1);
         Due.is("litBy -1", x, x.litBy(-1), -1, 1);
+        Due.is("burnt 0", x, x.burnt(0), 0, 0);
         Due.is("burnt 4", x, x.burnt(4), 0, 0);
         Due.is("burnt 5", x, x.burnt(5), 1, 0);
         Due.is("burnt 8", x, x.burnt(8), 11, 0);
@@ -302,6 +305,26 @@ public final class PromisesTest {
         Due.is("way 6", x.wayAt(6, 0) + 10 * x.wayAt(6, 1) + 100 * x.wayAt(6, 2), 2 + 10 * 1 + 0);
     }
 
+    /** Each call that asks for ways makes them itself, anew for each street. */
+    private static void waysAnew() {
+        Due.is("bestWay first", Due.street(EITHER).bestWay(), 1);
+        Due.is("couldRing first", Due.street(EITHER).couldRing(), 3);
+        Due.is("wayBurnt first", Due.street(EITHER).wayBurnt(1), 2);
+        Due.is("wayAt first", Due.street(EITHER).wayAt(1, 0), 1);
+        NextBell x = Due.street(EITHER);
+        Due.is("two", x.ways(), 2);
+        Due.is("a fit", x.fits(), 1);
+        Due.tell(x, "street fright 0;house a timber day 61 by 0");
+        Due.is("day 61 is out of bounds", x.fault(), 4);
+        Due.is("still two", x.ways(), 2);
+        Due.tell(x, "street fright 0;house a timber day 60 by 0;house z timber calm;house zz timber calm;"
+                + "spark a z days 1;spark a zz days 0;unknown z;glass day 5;glass day 6");
+        Due.is("one", x.ways(), 1);
+        Due.is("its second ring", x.wayAt(0, 1), 0);
+        Due.is("eleven fits", x.fits(), 11);
+        Due.is("one burns on day 61", x.wayBurnt(0), 2);
+    }
+
     private static void safe() {
         NextBell x = Due.street(ROW);
         Due.is("safe 4", x, x.safe(4), 0, 0);
@@ -425,6 +448,20 @@ public final class PromisesTest {
         Due.is("120 has no more", x, x.fitAt(121, 0), -1, 1);
     }
 
+    /** c burns 19 days behind a, so that the days to try are the last. */
+    private static void lateTry() {
+        NextBell x = Due.street("street fright 0;house a timber calm;house b brick calm;house c timber calm;"
+                + "spark a b days 9;spark b c days 9;unknown a;pulled a;pulled b");
+        Due.is("first: leaves", x.tryLeaves(), 8);
+        Due.is("day 20", x, x.tryDay(), 20, 0);
+        Due.is("on day 27", x.nextBy(2, 27), 1);
+        Due.is("on day 28", x.nextBy(2, 28), 0);
+        Due.is("first: tryDay", Due.street(ROW).tryDay(), 6);
+        Due.is("first: fitAt", Due.street(ROW).fitAt(1, 0), 7);
+        Due.is("first: nextBy", Due.street(ROW).nextBy(1, 6), 1);
+        Due.is("no house 3", x, x.nextBy(3, 0), -1, 1);
+    }
+
     private static void judges() {
         Due.is("row", Due.street(ROW).judge(), 1);
         String one = "street fright 0;house a timber day 3 by 1;house b timber day 5 by 1;unknown a;";
@@ -463,6 +500,9 @@ public final class PromisesTest {
     private static void chance() {
         NextBell x = Due.street(CHANCE);
         part("a by 2", x, x.odds(0, 2, false), x.odds(0, 2, true), 1, 2);
+        part("a by 0", x, x.odds(0, 0, false), x.odds(0, 0, true), 0, 1);
+        part("quiet 0", x, x.quiet(0, false), x.quiet(0, true), 1, 1);
+        part("mean 0", x, x.mean(0, false), x.mean(0, true), 0, 1);
         part("a by 1", x, x.odds(0, 1, false), x.odds(0, 1, true), 0, 1);
         part("b by 3", x, x.odds(1, 3, false), x.odds(1, 3, true), 1, 2);
         part("b by 4", x, x.odds(1, 4, false), x.odds(1, 4, true), 3, 5);

@@ -102,6 +102,7 @@ public final class TextTest {
         Due.is("by", x.house(0, 2), 7);
         // Words that aren't ruled out are names, those of kinds too.
         good("street fright 0;house brick brick calm;house day stone day 60 by 100;spark day brick days 0", 2);
+        good("street fright 0;house az stone calm;house za stone calm;spark az za days 1;spark za az days 1", 2);
         good("street fright 0;house a stone calm;glass day 0;house b stone calm;glass day 30;rung day 30 nobody", 2);
         x = good(TWO + "spark a b days 9;spark b a days 0;does b panic;does a douse;pulled b;pulled a;"
                 + "glass day 1;glass day 2;glass day 3;glass day 30;unknown b;unknown a;"
